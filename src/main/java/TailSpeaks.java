@@ -492,6 +492,7 @@ public final class TailSpeaks {
         }
 
         int openRing(int r, int i) {
+            if (!isPlace(r, i)) return NONE;
             rings[r] = false;
             for (int j = 0; j <= i; j++) putBehind(r, takeOut(r, 0));
             return whoIsAt(r, sizeOf(r) - 1);
@@ -748,7 +749,7 @@ public final class TailSpeaks {
         private static final int ORDERS = 120, MASKS = 32, STATES = ORDERS * MASKS;
         private static final int SAY = 0, ASK = 1, GO = 2;
         // a key is the cost above, the number of acts in the lowest 12 bits
-        private static final int ACT_BITS = 12, FAR = Integer.MAX_VALUE;
+        private static final int ACT_BITS = 12, FAR = 0x7fffffff;
         // the spot of a state that lies on a cheapest plan
         private static final int GOOD = -1;
 
@@ -768,6 +769,7 @@ public final class TailSpeaks {
         // the open states are a heap at the front, the settled ones stand from the back on
         private final int[] heap = new int[STATES];
         private int heaped;
+        private int settled;
         private final int[] spots = new int[STATES];
 
         Search() {
@@ -856,8 +858,8 @@ public final class TailSpeaks {
             if (question == asked) return;
             asked = question;
             best = FAR;
-            if (!canBe(want)) return;
-            markGood(settle(want));
+            settled = 0;
+            if (canBe(want)) settle(want);
         }
 
         private long questionOf(int want) {
@@ -870,17 +872,16 @@ public final class TailSpeaks {
             return question;
         }
 
-        /** Finds the keys of all states that are no dearer than the plan: how many. */
-        private int settle(int want) {
+        /** Finds the keys of all states that are no dearer than the plan. */
+        private void settle(int want) {
             Arrays.fill(keys, FAR);
             heaped = 0;
             offer(start, 0);
-            int many = 0;
-            while (heaped > 0 && many < STATES) {
+            while (heaped > 0 && settled < STATES) {
                 int s = takeLeast();
                 if (keys[s] > best) break;
-                many++;
-                heap[STATES - many] = s;
+                settled++;
+                heap[STATES - settled] = s;
                 if ((s & want) == want) {
                     best = keys[s];
                     spots[s] = GOOD;
@@ -888,7 +889,6 @@ public final class TailSpeaks {
                     offerAll(s);
                 }
             }
-            return many;
         }
 
         private void offerAll(int s) {
@@ -899,11 +899,13 @@ public final class TailSpeaks {
         }
 
         /** Marks, from the dearest on, the states from which a plan's end is reached. */
-        private void markGood(int many) {
-            for (int i = STATES - many; i < STATES; i++) {
+        private void markGood() {
+            for (int i = STATES - settled; i < STATES; i++) {
                 int s = heap[i];
                 if (keys[s] < best && firstGood(s) != NONE) spots[s] = GOOD;
             }
+            // so that they are marked but once
+            settled = 0;
         }
 
         private int firstGood(int s) {
@@ -917,6 +919,7 @@ public final class TailSpeaks {
 
         /** Act i of the plan that was found, NONE if it has not so many. */
         int step(int i) {
+            markGood();
             int s = start;
             for (int j = 0; j < length(); j++) {
                 int act = firstGood(s);

@@ -123,6 +123,13 @@ public final class PromiseTest {
         x.end(0);
         x.feed(0x72696e6720303b20L);
         is("what comes then stands at 0", x.text(), 1);
+        x.feed(0x72696e6772696e67L);
+        x.end(4);
+        is("'ring', not 'ringring'", x.text(), -14);
+        x.feed(0x72696e6720313131L);
+        x.end(7);
+        is("'ring 11', not 'ring 111'", x.text(), -15);
+        is("out of its bounds", x.fault(), 3);
     }
 
     private static void texts() {
@@ -183,6 +190,8 @@ public final class PromiseTest {
         told(";", 0, 2);
         told("12", 0, 2);
         told("rings 0;", 0, 2);
+        told("zoo 0;", 0, 2);
+        told("amaze 0;", 0, 2);
         told("plain 0;", 0, 2);
         told("queue !", 0, 2);
         told("person", 6, 2);
@@ -594,6 +603,11 @@ public final class PromiseTest {
         x = Due.told("person plain 1 0;row 0 0;");
         planIs(x, 0, 0, 1, 2, 0);
         is("alone", x.plan(0, 1, 1, 0, 0), NONE);
+        // the same two in a longer row, and alone
+        x = Due.told("person plain 0;person deaf 0;person plain 0 0;row 0 0 1 2;");
+        planIs(x, 0, 0, 2, 2, 0, 11, 1);
+        x.serve(0);
+        planIs(x, 0, 0, 2, 2, 0, 10, 1);
         planEdges();
     }
 
