@@ -355,6 +355,14 @@ public final class ActEdgeTest {
     /** Seeds by which bit 15, bit 31 or a sign that is drawn too would tell another place. */
     private static void lotsOfBits() {
         S.by("A LOT by a seed: the CUT at the PLACE that bits 16 to 30 of seed times 1103515245 and 12345 are, modulo how many there are.");
+        // behind 12345 the lowest 16 bits of these are all 0, or all 1
+        int[] carried = {42627, 47902};
+        for (int seed : carried) {
+            int rest = (seed * 1103515245 + 12345) & 65535;
+            S.is("the rest by " + seed, rest == 0 || rest == 65535 ? 1 : 0, 1);
+            TailSpeaks x = Due.told(SIX + "row 1 0 1 2 3 4 5;ring 1;");
+            S.is("lot of " + seed, x.lot(1, seed), placeByLot(seed, 6));
+        }
         int high = 0, top = 0, low = 0;
         for (int seed = 1; seed < 60; seed++) {
             int n = seed * 1103515245 + 12345, due = placeByLot(seed, 5);

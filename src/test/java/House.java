@@ -39,6 +39,23 @@ final class House {
         return b.toString();
     }
 
+    /** A text that tells what there is, but the hour. */
+    static String textOf(TailSpeaks x) {
+        StringBuilder b = new StringBuilder();
+        for (int p = 0; p < x.rule(0); p++) {
+            b.append("person ").append(KINDS[x.one(p, 0)]).append(' ').append(x.one(p, 1));
+            int facts = x.one(p, 2);
+            for (int f = 0; f < 4; f++) if ((facts >> f & 1) != 0) b.append(' ').append(f);
+            b.append(';');
+        }
+        for (int r = 0; r < 2; r++) {
+            String row = row(x, r);
+            if (!row.isEmpty()) b.append("row ").append(r).append(row.replaceAll("(.)", " $1")).append(';');
+            if (x.rule(4 + r) == 1) b.append("ring ").append(r).append(';');
+        }
+        return b.toString();
+    }
+
     /** What can be asked without a change. */
     static List<Integer> look(TailSpeaks x) {
         List<Integer> all = new ArrayList<>();

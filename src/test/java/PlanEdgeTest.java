@@ -1,3 +1,5 @@
+import java.util.Random;
+
 /** Plans: each sentence that names a boundary case (promises 23 to 26). */
 public final class PlanEdgeTest {
     private static final int BAD = -1, STATE = -2, NONE = -4;
@@ -24,6 +26,7 @@ public final class PlanEdgeTest {
         theFirstByActs();
         whatChangesNothing();
         thePlanIsNotDone();
+        whatWasAskedBefore();
         theDearest();
         theDearestOfSeveral();
         noneIsLatest();
@@ -287,6 +290,48 @@ public final class PlanEdgeTest {
         S.is("all know it", x.know(0), 7);
         S.is("hour", x.rule(1), 4);
         planIs(x, 0, 0, 7, MINUTES, 0);
+    }
+
+    /** An object that was asked much answers as a new one that is told the same. */
+    private static void whatWasAskedBefore() {
+        S.by("A PLAN in a ROW for a FACT and some ONES");
+        Random random = new Random(5);
+        for (int run = 0; run < 300; run++) {
+            TailSpeaks x = Due.told(run % 3 == 0 ? House.SIX + "row 0 1 2 3 4 5;" : House.SIX + "row 0 0 1 5 4;row 1 3 2;");
+            int f = random.nextInt(4), how = random.nextInt(3), some = random.nextInt(32);
+            for (int step = 0; step < 6; step++) {
+                oneChange(x, random, f);
+                TailSpeaks y = Due.told(House.textOf(x));
+                int r = random.nextInt(8) == 0 ? 1 : 0;
+                if (random.nextInt(3) == 0) some = random.nextInt(64);
+                if (random.nextInt(4) == 0) how = random.nextInt(3);
+                int in = 0;
+                for (int i = 0; i < y.rule(2 + r); i++) in |= 1 << y.at(r, i);
+                int[] whats = {10, 0, 1, 11, 12, 13};
+                for (int what : whats) {
+                    String call = "plan " + r + " " + f + " " + (some & in) + " " + how + " " + what + " in " + House.textOf(y);
+                    S.is(call, x.plan(r, f, some & in, how, what), y.plan(r, f, some & in, how, what));
+                }
+                S.is("latest", x.latest(r, f, 0), y.latest(r, f, 0));
+                S.is("steer", x.steer(r, f, 0), y.steer(r, f, 0));
+                S.is("common", x.common(r), y.common(r));
+            }
+        }
+    }
+
+    private static void oneChange(TailSpeaks x, Random random, int f) {
+        int p = random.nextInt(6);
+        switch (random.nextInt(9)) {
+            case 0: x.price(p, random.nextInt(10)); break;
+            case 1: x.teach(p, f, random.nextBoolean()); break;
+            case 2: x.go(0, p); break;
+            case 3: x.change(p % 2); break;
+            case 4: x.serve(0); break;
+            case 5: x.come(p, 0); break;
+            case 6: x.ask(0, f); break;
+            case 7: x.ring(0); break;
+            default: x.cut(0, p); break;
+        }
     }
 
     private static void theDearest() {

@@ -44,6 +44,7 @@ public final class RefusedTest {
         keeping();
         sheets();
         reading();
+        theFirstThatFits();
         drawnRuns();
         S.end();
     }
@@ -302,8 +303,12 @@ public final class RefusedTest {
             for (int how : hows) refused("plan by " + how, text, x -> x.plan(0, 0, 0, how, 0), BAD);
             int[] whats = {-1, 2, 9, MIN};
             for (int what : whats) refused("plan, what " + what, text, x -> x.plan(0, 0, 0, 0, what), BAD);
-            int[] somes = {64, 65, -1, MIN, 1 << 30, 256};
+            int[] somes = {65, -1, -2, MAX};
             for (int some : somes) refused("plan for " + some, text, x -> x.plan(0, 0, some, 0, 0), BAD);
+            for (int bit = 6; bit < 32; bit++) {
+                int some = 1 << bit;
+                S.is("plan for " + some, House.of(text).plan(0, 0, some, 0, 0), BAD);
+            }
         }
         int[] others = {8, 9, 16, 15, 32, 33, 63};
         for (int some : others) {
@@ -497,6 +502,38 @@ public final class RefusedTest {
         }
     }
 
+    /** Calls that may be refused in two ways at once. */
+    private static void theFirstThatFits() {
+        S.by("FULL -3, NONE -4 (there is none), the first that fits");
+        String ring = NOBODY_IN + "ring 0;";
+        refused("BAD, STATE: say", ring, x -> x.say(0, 4), BAD);
+        refused("STATE, NONE: say", RINGS, x -> x.say(0, 3), STATE);
+        refused("BAD, STATE: ask", ring, x -> x.ask(0, 4), BAD);
+        refused("BAD, STATE: go", ring, x -> x.go(0, 0), BAD);
+        refused("STATE, NONE: change", ring, x -> x.change(0), STATE);
+        refused("STATE, NONE: change", ring, x -> x.change(1), STATE);
+        refused("STATE, NONE: serve", ring, x -> x.serve(0), STATE);
+        refused("BAD, STATE: come", ring, x -> x.come(6, 0), BAD);
+        refused("BAD, STATE: split", ring, x -> x.split(1), BAD);
+        refused("BAD, STATE: cut", NOBODY_IN, x -> x.cut(0, 0), BAD);
+        refused("STATE, NONE: lot", NOBODY_IN, x -> x.lot(0, 0), STATE);
+        refused("BAD, STATE: plan", RINGS, x -> x.plan(0, 0, 8, 0, 0), BAD);
+        refused("STATE, NONE: plan", RINGS, x -> x.plan(0, 2, 1, 0, 10), STATE);
+        refused("BAD, NONE: plan", ROWS, x -> x.plan(0, 2, 7, 0, 9), BAD);
+        refused("STATE, NONE: latest", ring, x -> x.latest(0, 0, 0), STATE);
+        refused("BAD, NONE: latest", NOBODY_IN, x -> x.latest(0, 0, 2), BAD);
+        refused("STATE, NONE: steer", NOBODY_IN, x -> x.steer(0, 0, 0), STATE);
+        refused("BAD, NONE: steer", ring, x -> x.steer(0, 0, 2), BAD);
+        refused("STATE, all FACTS: common", ring, x -> x.common(0), STATE);
+        refused("BAD, STATE: talks", RINGS, x -> x.talks(0, 12), BAD);
+        refused("BAD, STATE: back", NOBODY_IN, x -> x.back(2), BAD);
+        refused("BAD, SIZE: sheet", ROWS, x -> x.sheet(4, 0, -1), BAD);
+        refused("BAD, NULL: lay", ROWS, x -> x.lay(4, 0, 0), BAD);
+        refused("NULL, INDEX: lay", ROWS, x -> x.lay(3, -1, 0), -11);
+        refused("BAD, NULL: read", ROWS, x -> x.read(3, 0, 2, 0, 1), BAD);
+        refused("BAD, no ACT: read", ROWS, x -> x.read(0, 0, 0, 4, 13), BAD);
+    }
+
     /** Of two objects one is given all drawn calls, the other those alone that were not refused. */
     private static void drawnRuns() {
         S.by("what is refused changes nothing (but THE TAPE, as told).");
@@ -511,9 +548,28 @@ public final class RefusedTest {
                 if (got < 0) refusals++;
                 else S.is("call " + c + " of run " + run, call.applyAsInt(y), got);
             }
+            inOneRowAtMost(x);
             S.changesNothing("run " + run, x, y);
         }
         S.is("many are refused", refusals > 5000 ? 1 : 0, 1);
+    }
+
+    private static void inOneRowAtMost(TailSpeaks x) {
+        S.by("a ONE is in one ROW at most.");
+        int stand = 0, met = 0;
+        for (int r = 0; r < 2; r++) {
+            for (int i = 0; i < x.rule(2 + r); i++) {
+                int p = x.at(r, i);
+                S.is("his row", x.one(p, 3), r);
+                S.is("his place", x.one(p, 4), i);
+                stand |= 1 << p;
+                met++;
+            }
+        }
+        S.is("each is met once", Integer.bitCount(stand), met);
+        S.is("those in rows", x.count(0), met);
+        for (int p = 0; p < 6; p++) S.is("in a row", x.one(p, 3) == NONE ? 0 : 1, stand >> p & 1);
+        S.by("what is refused changes nothing (but THE TAPE, as told).");
     }
 
     private static ToIntFunction<TailSpeaks> drawn(Random random) {

@@ -13,6 +13,7 @@ public final class TalkEdgeTest {
         nothingWasSeen();
         whatMayBeSaid();
         kindsOfTalk();
+        nobodyKnowsAnything();
         noOneAhead();
         theSixth();
         going();
@@ -153,6 +154,18 @@ public final class TalkEdgeTest {
                 S.is(call + " asked it", x.talks(0, 10), nods ? 6 : NONE);
             }
         }
+    }
+
+    private static void nobodyKnowsAnything() {
+        S.by("SAY f: THE LAST, who KNOWS FACT f and is not mute, says it");
+        TailSpeaks x = kept("person plain 1;person plain 1;person mute 1;row 0 0 1 2;");
+        x.saw(NONE);
+        talksAre("the mute is the last", x, 1, NOTHING);
+        x.forget();
+        saw(x, 0, NONE, 1, NONE);
+        talksAre("four asks in vain or nothing, twice", x, 25, GO, ASK, GO, ASK);
+        x.teach(0, 0, true);
+        talksAre("what nobody knew", x, 0);
     }
 
     private static void noOneAhead() {

@@ -18,6 +18,7 @@ public final class TextEdgeTest {
         numbersOfTwoFigures();
         kinds();
         lines();
+        eachTokenBehindEach();
         bounds();
         faultOne();
         faultTwo();
@@ -131,9 +132,19 @@ public final class TextEdgeTest {
         Due.lay(x, "ring 0;;");
         x.end(7);
         S.is("'ring 0;'", x.text(), 1);
-        Due.lay(x, "ring 1;m");
-        x.end(7);
-        S.is("'ring 1;'", x.text(), 1);
+        cutShort("ringring", 4, 4, 2);
+        cutShort("ring 000", 7, 7, 2);
+        cutShort("ring 100", 7, 5, 3);
+        cutShort("ring 0;;", 6, 6, 2);
+        cutShort("row 0 0;", 7, 7, 2);
+    }
+
+    private static void cutShort(String text, int n, int place, int fault) {
+        TailSpeaks x = new TailSpeaks();
+        Due.lay(x, text);
+        S.is("end", x.end(n), text.length());
+        S.is(n + " of '" + text + "'", x.text(), -10 - place);
+        S.is(n + " of '" + text + "'", x.fault(), fault);
     }
 
     private static void badEnds() {
@@ -214,6 +225,9 @@ public final class TextEdgeTest {
             faulty("person " + kind.substring(1) + " 0;", 7, 2);
             faulty("person " + kind.substring(0, kind.length() - 1) + " 0;", 7, 2);
             faulty("person " + kind.charAt(0) + " 0;", 7, 2);
+            for (int i = 0; i < kind.length(); i++) {
+                faulty("person " + kind.substring(0, i) + "z" + kind.substring(i + 1) + " 0;", 7, 2);
+            }
             faulty(kind + " 0;", 0, 2);
         }
         faulty("person Plain 0;", 7, 1);
@@ -231,6 +245,42 @@ public final class TextEdgeTest {
         taken("ring 0;row 0 2 0;person mute 9 3 2 1 0;person deaf 0;person quick 5 0;row 1 1;ring 1;", 7);
         taken(MUTES + "row 0 5 4 3 2 1 0;ring 0;ring 1;", 9);
         taken(MUTES + "row 1 5 3 1;row 0 4;ring 0;ring 1;", 10);
+    }
+
+    /** What a line may go on with behind a beginning; another token is fault 2, a greater number 3, one told already 4. */
+    private static void eachTokenBehindEach() {
+        S.by("line: person K N { N } ; | row N N { N } ; | ring N ;");
+        goesOn("", "person row ring", -1, -1);
+        goesOn("ring 1; ", "person row ring", -1, -1);
+        goesOn("person ", "plain quick liar deaf mute", -1, -1);
+        goesOn("person deaf ", "", 9, -1);
+        goesOn("person deaf 1 ", ";", 3, -1);
+        goesOn("person deaf 1 2 ", ";", 3, 2);
+        goesOn("row ", "", 1, -1);
+        goesOn("row 1 3;row ", "", 1, 1);
+        goesOn("row 0 ", "", 5, -1);
+        goesOn("row 0 4 ", ";", 5, 4);
+        goesOn("ring ", "", 1, -1);
+        goesOn("ring 0;ring ", "", 1, 0);
+        goesOn("ring 0 ", ";", -1, -1);
+    }
+
+    private static void goesOn(String begun, String words, int most, int told) {
+        String[] tokens = {"person", "row", "ring", "plain", "quick", "liar", "deaf", "mute", "zoo", ";",
+            "0", "1", "2", "3", "4", "5", "6", "9", "00", "01", "10", "99", "100", "!"};
+        for (String token : tokens) {
+            int at = begun.length();
+            boolean figures = Character.isDigit(token.charAt(0));
+            int value = figures ? Integer.parseInt(token) : -1;
+            if (token.equals("!") || token.equals("100")) faulty(begun + token, at, 1);
+            else if (!figures && !(" " + words + " ").contains(" " + token + " ")) faulty(begun + token, at, 2);
+            else if (figures && most < 0) faulty(begun + token, at, 2);
+            else if (figures && value > most) faulty(begun + token, at, 3);
+            else if (figures && value == told) faulty(begun + token, at, 4);
+            else if (!token.equals(";")) faulty(begun + token, at + token.length(), 2);
+            else if (begun.startsWith("row")) faulty(begun + token, at + 1, 6);
+            else taken(begun + token, 1);
+        }
     }
 
     private static void bounds() {
@@ -275,7 +325,8 @@ public final class TextEdgeTest {
     private static void faultTwo() {
         S.by("2 a TOKEN that can not stand there (a NAME that begins no line, is no K; or the end: the length).");
         String[] noLine = {";", "0", "12", "rings 0;", "rin 0;", "rows 0;", "ro 0 0;", "persons 1;", "perso 1;",
-            "plain 1;", "a", "z", "ringring 0;", "r", "p"};
+            "plain 1;", "a", "z", "ringring 0;", "r", "p", "zing 0;", "tow 0 0;", "qerson mute 1;", "rinh 0;", "rox 0 0;",
+            "rwo 0 0;", "rnig 0;", "persom mute 1;"};
         for (String text : noLine) faulty(text, 0, 2);
         faulty("ring 0;ring", 11, 2);
         faulty("person ;", 7, 2);
@@ -425,6 +476,8 @@ public final class TextEdgeTest {
         S.by("A text that is taken tells all, in place of what there was; THE HOUR is 0; nothing SEEN; IMAGES are gone.");
         TailSpeaks x = House.of(House.SIX + "row 0 3 2 1;row 1 0 4;");
         x.go(0, 0);
+        S.is("a read in the second minute", x.read(0, 0, 0, 0, 1), 1);
+        S.is("a read beyond", x.read(0, 0, 0, 5, 1), 0);
         x.ring(1);
         x.end(0);
         S.is("told", Due.tell(x, "person deaf 2 1;person mute 8;row 1 1;"), 3);
