@@ -3,8 +3,7 @@ import java.util.List;
 
 /** Objects that hold something of everything, and all that can be asked of one. */
 final class House {
-    static final int BAD = -1, STATE = -2, FULL = -3, NONE = -4;
-    static final int MIN = Integer.MIN_VALUE, MAX = Integer.MAX_VALUE;
+    private static final int NONE = -4;
     static final String[] KINDS = {"plain", "quick", "liar", "deaf", "mute"};
     /** One of each kind, and a plain one more, who knows nothing. */
     static final String SIX =
@@ -27,7 +26,7 @@ final class House {
             x.sheet(k, k, acts.length);
             for (int i = 0; i < acts.length; i++) x.lay(k, i, acts[i]);
         }
-        x.read(0, 0, 0, MAX, 1);
+        x.read(0, 0, 0, acts.length, 1);
         Due.tell(x, "rows 0;");
         Due.lay(x, "person deaf 4 2;ring 1;row 0 0;ring");
         return x;

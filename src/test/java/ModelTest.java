@@ -20,6 +20,7 @@ public final class ModelTest {
         ModelTest t = new ModelTest(seed);
         for (int i = 0; i < runs; i++) t.aRun(i);
         for (int i = 0; i < 20 * runs; i++) t.aFaultyText(i);
+        for (int many = 1; many <= 3; many++) t.allRowsOf(many);
         t.due.end();
     }
 
@@ -108,6 +109,39 @@ public final class ModelTest {
             else aCall(focus == 0 ? below(36) : focus == 1 ? below(19) : focus == 2 ? 8 + below(28) : 20 + below(16));
         }
         checkAll();
+    }
+
+    /** Each row of so many of each kind, with each who may know the fact: plans for each of them, by each cost. */
+    private void allRowsOf(int many) {
+        int rows = (int) Math.pow(5, many) << many;
+        for (int row = 0; row < rows; row++) {
+            int know = row & (1 << many) - 1, kinds = row >> many;
+            StringBuilder people = new StringBuilder(), places = new StringBuilder("row 0");
+            for (int p = 0; p < many; p++) {
+                people.append("person ").append(KINDS[kinds % 5]).append(' ').append(below(10));
+                people.append((know >> p & 1) != 0 ? " 2;" : ";");
+                places.append(' ').append(p);
+                kinds /= 5;
+            }
+            run = "all rows of " + many + ", " + people;
+            x = new TailSpeaks();
+            m = new NaiveModel();
+            tellBoth(people.toString() + places + ";");
+            for (int some = 1; some < 1 << many; some++) allPlans(some);
+            check("common", x.common(0), m.common(0));
+            for (int w = 0; w < 2; w++) check("latest", x.latest(0, 2, w), m.latest(0, 2, w));
+            check("ring", x.ring(0), m.ring(0));
+            for (int w = 0; w < 2; w++) check("steer", x.steer(0, 2, w), m.steer(0, 2, w));
+        }
+    }
+
+    private void allPlans(int some) {
+        for (int how = 0; how < 3; how++) {
+            String call = "plan for " + some + " by " + how + ", ";
+            for (int w = 0; w < 2; w++) check(call + w, x.plan(0, 2, some, how, w), m.plan(0, 2, some, how, w));
+            int acts = Math.max(0, m.plan(0, 2, some, how, 1));
+            for (int i = 0; i <= acts; i++) check(call + "act " + i, x.plan(0, 2, some, how, 10 + i), m.plan(0, 2, some, how, 10 + i));
+        }
     }
 
     private void checkAll() {

@@ -22,6 +22,8 @@ public final class PlanEdgeTest {
         notSoMany();
         cheapest();
         thePricesNow();
+        eachPriceMatters();
+        aShorterRow();
         fewestActs();
         theFirstByActs();
         whatChangesNothing();
@@ -236,6 +238,40 @@ public final class PlanEdgeTest {
         planIs(x, 0, 0, 8, MINUTES, 0);
         for (int p = 0; p < 4; p++) x.teach(p, 0, false);
         noPlan(x, 0, 0, 8);
+    }
+
+    private static void eachPriceMatters() {
+        S.by("2 COINS (each GO the PRICE of who goes, SAY and ASK 0)");
+        // the one who knows it goes and says it, and is priced otherwise while he is asked for
+        for (int many = 3; many <= 5; many++) {
+            for (int place = 0; place < many - 2; place++) {
+                StringBuilder people = new StringBuilder(), row = new StringBuilder("row 1");
+                for (int p = 0; p < many; p++) {
+                    people.append("person plain 0").append(p == place ? " 1;" : ";");
+                    row.append(' ').append(p);
+                }
+                TailSpeaks x = Due.told(people.toString() + row + ";");
+                for (int v = 0; v <= 9; v++) {
+                    x.price(place, v);
+                    planIs(x, 1, 1, 1 << many - 1, COINS, v, GO + place, SAY);
+                }
+                planIs(x, 1, 1, 1 << many - 1, GOINGS, 1, GO + place, SAY);
+                planIs(x, 1, 1, 1 << many - 1, MINUTES, 2, GO + place, SAY);
+            }
+        }
+    }
+
+    private static void aShorterRow() {
+        S.by("10 and i: ACT i: 0 SAY, 1 ASK, 10 and a PLACE: GO.");
+        // those ahead, who matter in nothing, are served one by one: his place is another then
+        TailSpeaks x = Due.told("person plain 0;person plain 0;person plain 0;person deaf 0;person plain 0 0;row 0 0 1 2 3 4;");
+        for (int place = 3; place >= 0; place--) {
+            planIs(x, 0, 0, 8, COINS, 0, GO + place, ASK);
+            planIs(x, 0, 0, 8, MINUTES, 2, GO + place, ASK);
+            x.serve(0);
+        }
+        planIs(x, 0, 0, 16, COINS, 0);
+        S.is("he was served", x.plan(0, 0, 8, COINS, 0), BAD);
     }
 
     private static void fewestActs() {
