@@ -17,6 +17,10 @@ public final class ActEdgeTest {
         askingInRows();
         going();
         theQuick();
+        theLiar();
+        theDeaf();
+        theMute();
+        theLastAndTheOneAhead();
         changing();
         serving();
         coming();
@@ -214,6 +218,68 @@ public final class ActEdgeTest {
         S.is("in a minute", x.rule(1), 6);
         S.is("he comes", x.come(1, 0), 1);
         S.is("in a minute", x.rule(1), 7);
+    }
+
+    private static void theLiar() {
+        S.by("2 liar: nobody comes to KNOW anything by him");
+        TailSpeaks x = Due.told("person liar 1 0 1;person plain 1 2;person plain 1;row 0 2 1 0;");
+        S.is("he says it in vain", x.say(0, 0), 0);
+        x.go(0, 1);
+        S.is("he does not nod", x.ask(0, 0), 0);
+        S.is("nobody knows it by him", x.know(0) | x.know(1), 1);
+        S.is("none can plan it", x.plan(0, 0, 2, 0, 0), NONE);
+        S.is("he is told", x.say(0, 2), 1);
+        x.go(0, 1);
+        S.is("not even what others know", x.say(0, 2), 0);
+        S.is("he asks", x.ask(0, 2), 0);
+        S.is("he knows it", x.one(0, 2), 7);
+    }
+
+    private static void theDeaf() {
+        S.by("3 deaf: he comes to KNOW nothing by what is said to him");
+        TailSpeaks x = Due.told("person deaf 1;person plain 1 0;row 0 0 1;");
+        S.is("it is said to him", x.say(0, 0), 0);
+        S.is("in vain, in a minute", x.rule(1), 1);
+        S.is("he knows nothing", x.one(0, 2), 0);
+        x.go(0, 0);
+        S.is("he asks", x.ask(0, 0), 1);
+        S.is("he knows it", x.one(0, 2), 1);
+        x.teach(1, 0, false);
+        S.is("and says it", x.say(0, 0), 1);
+    }
+
+    private static void theMute() {
+        S.by("4 mute: he can say nothing, ask nothing (but nod).");
+        TailSpeaks x = Due.told("person mute 1 0;person plain 1 1;row 0 1 0;");
+        for (int f = 0; f < 4; f++) {
+            S.is("say " + f, x.say(0, f), STATE);
+            S.is("ask " + f, x.ask(0, f), STATE);
+        }
+        S.is("no minute", x.rule(1), 0);
+        S.is("he goes", x.go(0, 0), 1);
+        S.is("he nods", x.ask(0, 0), 1);
+        S.is("he is told", x.say(0, 1), 1);
+        S.is("he knows it", x.one(0, 2), 3);
+    }
+
+    private static void theLastAndTheOneAhead() {
+        S.by("ACTS in a ROW that is no RING; THE LAST is at its greatest PLACE, THE ONE AHEAD next to him.");
+        for (int many = 2; many <= 6; many++) {
+            StringBuilder row = new StringBuilder("row 0");
+            for (int p = 0; p < many; p++) row.append(' ').append(p);
+            StringBuilder people = new StringBuilder();
+            for (int p = 0; p < many; p++) people.append("person plain 1").append(p == many - 1 ? " 1;" : ";");
+            TailSpeaks x = Due.told(people.toString() + row + ";");
+            S.is("the last of " + many + " says it", x.say(0, 1), 1);
+            S.is("the one ahead knows it", x.know(1), 3 << many - 2);
+            x.ring(0);
+            S.is("in a ring", x.say(0, 1), STATE);
+            S.is("in a ring", x.ask(0, 1), STATE);
+            S.is("in a ring", x.go(0, 0), STATE);
+            S.is("no minute", x.rule(1), 1);
+            x.cut(0, 0);
+            S.is("the last behind a cut", x.ask(0, 1), many == 2 ? 0 : 1);
+        }
     }
 
     private static void changing() {

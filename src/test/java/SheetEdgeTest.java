@@ -20,6 +20,7 @@ public final class SheetEdgeTest {
         acts();
         noActs();
         howMany();
+        oneBehindAnother();
         readBeyond();
         readOfNothing();
         readAsAnother();
@@ -261,7 +262,25 @@ public final class SheetEdgeTest {
         S.is("none, far off", x.read(0, 0, 0, MAX, 0), 0);
     }
 
+    private static void oneBehindAnother() {
+        S.by(", one behind another as by say(), ask(), go(): how many were done.");
+        int[] cells = {0, 10, 6, 11, 4, 5, 10, 10, 2, 7, 11, 0};
+        TailSpeaks x = sheeted(TWO, 1, cells), y = Due.told(TWO);
+        for (int cell : cells) {
+            int got = cell < 4 ? y.say(0, cell) : cell < 8 ? y.ask(0, cell - 4) : y.go(0, cell - 10);
+            S.is("act " + cell, got >= 0 ? 1 : 0, 1);
+        }
+        S.is("all twelve", x.read(0, 1, 0, 0, 12), 12);
+        S.same("read and done", House.textOf(x), House.textOf(y));
+        S.is("hour", x.rule(1), y.rule(1));
+    }
+
     private static void readBeyond() {
+        S.by("2 INDEX, 3 CAST (another lane)");
+        S.is("a cell ahead of all", sheeted(TWO, 0, 10).read(0, 0, 0, -1, 1), 0);
+        S.is("a cell behind all", sheeted(TWO, 0, 10).read(0, 0, 0, 1, 1), 0);
+        S.is("lay ahead of all", sheeted(TWO, 0, 10).lay(0, -1, 0), -12);
+        S.is("lay behind all", sheeted(TWO, 0, 10).lay(0, 1, 0), -12);
         S.by("What the machine refuses: those ahead are done (its FAULT is asked by torn()).");
         for (int cells = 0; cells < 4; cells++) {
             int[] goes = new int[cells];

@@ -20,6 +20,7 @@ public final class TextEdgeTest {
         lines();
         eachTokenBehindEach();
         bounds();
+        peopleByOrder();
         faultOne();
         faultTwo();
         faultTwoAtTheEnd();
@@ -301,6 +302,29 @@ public final class TextEdgeTest {
             S.is("ring, nobody there", x.rule(4 + r), 1);
             S.is("the other", x.rule(5 - r), 0);
         }
+    }
+
+    private static void peopleByOrder() {
+        S.by("PEOPLE (6 at most, by order), each a ONE: a KIND, a PRICE (0 to 9), FACTS (0 to 3) that he KNOWS.");
+        for (int many = 0; many <= 6; many++) {
+            StringBuilder text = new StringBuilder("row 0 5;".substring(0, many == 6 ? 8 : 0));
+            for (int p = 0; p < many; p++) text.append("person ").append(House.KINDS[p % 5]).append(' ').append(9 - p).append(' ').append(p % 4).append(';');
+            TailSpeaks x = Due.told(text.toString());
+            S.is("people", x.rule(0), many);
+            for (int p = 0; p < many; p++) {
+                S.is("kind of " + p, x.one(p, 0), p % 5);
+                S.is("price of " + p, x.one(p, 1), 9 - p);
+                S.is("facts of " + p, x.one(p, 2), 1 << p % 4);
+            }
+            S.is("one more", x.one(many, 0), BAD);
+        }
+        S.by("ROWS 0, 1: ONES by PLACES, 0 the front");
+        TailSpeaks x = Due.told(MUTES + "row 1 4 2 5;row 0 1;");
+        S.is("the front", x.at(1, 0), 4);
+        S.is("the last", x.at(1, 2), 5);
+        S.is("who is served", x.serve(1), 4);
+        S.is("who changes rows", x.change(1), 5);
+        S.is("row 2", x.at(2, 0), BAD);
     }
 
     private static void faultOne() {
