@@ -196,7 +196,7 @@ public final class PlanEdgeTest {
         for (int what : far) S.is("an act " + what, x.plan(0, 0, 4, 0, what), NONE);
         S.is("the last act", x.plan(0, 0, 4, 0, 11), SAY);
         S.is("of a plan of no acts", x.plan(0, 0, 1, 0, 10), NONE);
-        S.by("BAD");
+        S.by("BAD; STATE: a RING, more than 5 are in it; NONE: it can not be; it has not so many (10 and i).");
         for (int what = 2; what < 10; what++) S.is("what " + what, x.plan(0, 0, 4, 0, what), BAD);
     }
 

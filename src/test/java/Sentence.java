@@ -6,13 +6,21 @@ import java.util.function.ToIntFunction;
 final class Sentence {
     private final Due due = new Due();
     private String sentence = "";
+    private boolean answered = true;
 
     /** The sentence, as it stands in the document, that the answers from here on are due by. */
     void by(String words) {
+        close();
         sentence = words;
+        answered = false;
+    }
+
+    private void close() {
+        if (!answered) due.is("\"" + sentence + "\": answers that are due by it", 0, 1);
     }
 
     void is(String call, long got, long want) {
+        answered = true;
         due.is("\"" + sentence + "\": " + call, got, want);
     }
 
@@ -38,6 +46,7 @@ final class Sentence {
     }
 
     void end() {
+        close();
         due.end();
     }
 }

@@ -173,7 +173,7 @@ public final class SheetEdgeTest {
         S.is("as it was", x.read(0, 2, 0, 0, 2), 2);
         x.sheet(0, 2, 0);
         S.is("of no cells", x.lay(0, 0, 9), -12);
-        S.by("BAD: k");
+        S.by("BAD: k; -10 less the FAULT: NULL, INDEX.");
         int[] ks = {-1, 4, MIN, MAX};
         for (int k : ks) S.is("k " + k, x.lay(k, 0, 0), BAD);
         for (int k : ks) S.is("k " + k, x.lay(k, -1, 0), BAD);
@@ -488,7 +488,7 @@ public final class SheetEdgeTest {
             x.sheet(0, 2, n);
             S.is("cells", x.count(5), n);
         }
-        S.by("BAD.");
+        S.by("5 CELLS of SHEET 0 (NONE: nothing). BAD.");
         int[] whats = {-1, 6, 7, MIN, MAX};
         for (int what : whats) S.is("count " + what, x.count(what), BAD);
     }

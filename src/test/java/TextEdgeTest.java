@@ -149,7 +149,7 @@ public final class TextEdgeTest {
     }
 
     private static void badEnds() {
-        S.by("BAD.");
+        S.by("THE TAPE keeps its first n bytes: how many it had. BAD.");
         int[] far = {-1, MIN, MAX, 9, 320, 321};
         for (int n : far) {
             TailSpeaks x = new TailSpeaks();
