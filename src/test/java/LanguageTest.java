@@ -1,3 +1,5 @@
+import com.sun.management.ThreadMXBean;
+import java.lang.management.ManagementFactory;
 import java.lang.reflect.Constructor;
 import java.lang.reflect.Field;
 import java.lang.reflect.Method;
@@ -6,6 +8,7 @@ import java.nio.charset.StandardCharsets;
 import java.nio.file.Files;
 import java.nio.file.Path;
 import java.util.Arrays;
+import java.util.List;
 import java.util.TreeSet;
 
 /** The face, what of the language's rules can be told by looking, and that no call ever throws. */
@@ -28,6 +31,8 @@ public final class LanguageTest {
         face();
         inside();
         source();
+        methodsAreShort();
+        room();
         wild();
         DUE.end();
     }
@@ -83,6 +88,50 @@ public final class LanguageTest {
         String code = text.replaceAll("(?s)/\\*.*?\\*/", " ").replaceAll("//[^\n]*", " ");
         for (String f : FORBIDDEN) {
             DUE.is("code has " + f, java.util.regex.Pattern.compile(f).matcher(code).find() ? 1 : 0, 0);
+        }
+    }
+
+    /** A method's lines are those from its first to the next closing brace as far in. */
+    private static void methodsAreShort() throws Exception {
+        List<String> lines = Files.readAllLines(Path.of(SOURCE));
+        int methods = 0;
+        for (int i = 0; i < lines.size(); i++) {
+            String line = lines.get(i);
+            if (!line.matches("( {4}| {8})[a-z].*\\) \\{")) continue;
+            String end = line.replaceAll("\\S.*", "}");
+            int close = i;
+            while (close < lines.size() && !lines.get(close).equals(end)) close++;
+            methods++;
+            DUE.is("lines of" + line, close - i < 60 ? 1 : 0, 1);
+        }
+        DUE.is("methods were found", methods > FACE.length ? 1 : 0, 1);
+    }
+
+    /** All runs share one room, so that a run of the dearest calls must make its rows but once. */
+    private static void room() {
+        ThreadMXBean machine = (ThreadMXBean) ManagementFactory.getThreadMXBean();
+        dearest();
+        long before = machine.getCurrentThreadAllocatedBytes();
+        dearest();
+        long made = machine.getCurrentThreadAllocatedBytes() - before;
+        DUE.is("bytes that 512 calls made, " + made + ", are few", made < 100_000 ? 1 : 0, 1);
+    }
+
+    private static void dearest() {
+        TailSpeaks x = Due.told("person plain 3 0;person quick 5;person plain 1;person deaf 9 2;person mute 4 3;row 0 0 1 2 3 4;");
+        x.sheet(0, 0, 12);
+        for (int i = 0; i < 12; i++) x.lay(0, i, 10);
+        x.keep(0);
+        for (int i = 0; i < 5; i++) x.saw(TailSpeaks.NONE);
+        for (int i = 0; i < 60; i++) {
+            x.plan(0, i % 4, 31, i % 3, 10);
+            x.latest(0, 0, 0);
+            x.common(0);
+            x.talks(0, 0);
+            x.read(0, 0, 0, 0, 12);
+            x.ring(0);
+            x.steer(0, 0, 0);
+            x.lot(0, i);
         }
     }
 

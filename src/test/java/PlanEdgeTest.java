@@ -1,3 +1,5 @@
+import java.util.ArrayList;
+import java.util.List;
 import java.util.Random;
 
 /** Plans: each sentence that names a boundary case (promises 23 to 26). */
@@ -29,6 +31,8 @@ public final class PlanEdgeTest {
         whatChangesNothing();
         thePlanIsNotDone();
         whatWasAskedBefore();
+        oneLeaves();
+        oneTextBehindAnother();
         theDearest();
         theDearestOfSeveral();
         noneIsLatest();
@@ -368,6 +372,59 @@ public final class PlanEdgeTest {
             case 7: x.ring(0); break;
             default: x.cut(0, p); break;
         }
+    }
+
+    /** He who alone knows it, or alone can ask and say it, leaves: all else is as it was. */
+    private static void oneLeaves() {
+        S.by("A PLAN in a ROW for a FACT and some ONES");
+        for (int how = MINUTES; how <= COINS; how++) {
+            TailSpeaks x = Due.told("person plain 0 0;person plain 0;person plain 0;person plain 0;person plain 0;row 0 0 1 2 3 4;");
+            S.is("the front one knows it, by " + how, x.plan(0, 0, 16, how, 1), 2);
+            x.serve(0);
+            S.is("nobody does, by " + how, x.plan(0, 0, 16, how, 1), NONE);
+            x = Due.told("person plain 0;person mute 0 0;person mute 0;row 1 0 1 2;");
+            planIs(x, 1, 0, 4, how, how == COINS ? 0 : how == GOINGS ? 4 : 6, GO + 1, GO, ASK, GO, GO + 1, SAY);
+            x.serve(1);
+            S.is("the mute alone, by " + how, x.plan(1, 0, 4, how, 0), NONE);
+        }
+        TailSpeaks x = Due.told("person plain 0;person plain 0;person plain 0 0;person plain 0;person plain 0;row 0 0 1 2 3 4;");
+        S.is("minutes of five", x.plan(0, 0, 16, MINUTES, 0), 2);
+        x.serve(0);
+        S.is("goings of four", x.plan(0, 0, 16, GOINGS, 0), 1);
+    }
+
+    /** Two of whatever kind, price and knowledge: what was told and asked before does not matter. */
+    private static void oneTextBehindAnother() {
+        S.by("A text that is taken tells all, in place of what there was");
+        List<String> texts = new ArrayList<>();
+        for (int a = 0; a < 20; a++) {
+            for (int b = 0; b < 20; b++) texts.add(somebody(a) + somebody(b) + "row 0 0 1;");
+        }
+        for (int how = MINUTES; how <= COINS; how += COINS) {
+            int[] costs = new int[texts.size()], lengths = new int[texts.size()];
+            for (int i = 0; i < costs.length; i++) {
+                TailSpeaks alone = Due.told(texts.get(i));
+                costs[i] = alone.plan(0, 0, 3, how, 0);
+                lengths[i] = alone.plan(0, 0, 3, how, 1);
+            }
+            for (int i = 0; i < costs.length; i++) {
+                TailSpeaks x = new TailSpeaks();
+                for (int j = 0; j < costs.length; j++) {
+                    // an object is for 512 calls
+                    if (j % 20 == 0) x = new TailSpeaks();
+                    Due.tell(x, texts.get(i));
+                    x.plan(0, 0, 3, how, 0);
+                    Due.tell(x, texts.get(j));
+                    String call = texts.get(j) + " behind " + texts.get(i) + " by " + how;
+                    S.is(call + ": cost", x.plan(0, 0, 3, how, 0), costs[j]);
+                    S.is(call + ": acts", x.plan(0, 0, 3, how, 1), lengths[j]);
+                }
+            }
+        }
+    }
+
+    private static String somebody(int n) {
+        return "person " + House.KINDS[n / 4] + (n % 2 == 0 ? " 0" : " 1") + (n / 2 % 2 == 0 ? ";" : " 0;");
     }
 
     private static void theDearest() {
