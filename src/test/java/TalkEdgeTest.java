@@ -129,31 +129,35 @@ public final class TalkEdgeTest {
         }
     }
 
-    private static TailSpeaks quietTwo(int ahead, int last, boolean aheadKnows, boolean lastKnows) {
-        TailSpeaks x = kept("person " + House.KINDS[ahead] + " 1" + (aheadKnows ? " 2;" : ";")
-            + "person " + House.KINDS[last] + " 1" + (lastKnows ? " 2;" : ";") + "row 0 0 1;");
+    private static TailSpeaks quietTwo(int ahead, int last, String aheadKnows, String lastKnows) {
+        TailSpeaks x = kept("person " + House.KINDS[ahead] + " 1" + aheadKnows + ";"
+            + "person " + House.KINDS[last] + " 1" + lastKnows + ";row 0 0 1;");
         x.saw(NONE);
         return x;
     }
 
     private static void kindsOfTalk() {
-        S.by("or, if it was QUIET: SAY of a FACT, ASK of a FACT (which can be, as above), or nothing");
         for (int ahead = 0; ahead < 5; ahead++) {
             for (int last = 0; last < 5; last++) {
-                boolean mute = last == 4, told = !mute && last != 2 && ahead != 3, nods = !mute && ahead != 2;
-                String call = House.KINDS[last] + " behind " + House.KINDS[ahead];
-                TailSpeaks x = quietTwo(ahead, last, false, true);
-                talksAre(call + " says nothing new", x, mute ? 1 : told ? 5 : 6, mute ? NOTHING : told ? ASK : 2);
-                x.teach(0, 2, true);
-                S.is(call + " said it", x.talks(0, 0), told ? 1 : 0);
-                S.is(call + " said it", x.talks(0, 10), told ? 2 : NONE);
-                x = quietTwo(ahead, last, true, false);
-                talksAre(call + " asks nothing new", x, mute ? 1 : nods ? 4 : 5, mute ? NOTHING : ASK);
-                x.teach(1, 2, true);
-                S.is(call + " asked it", x.talks(0, 0), nods ? 1 : 0);
-                S.is(call + " asked it", x.talks(0, 10), nods ? 6 : NONE);
+                for (int f = 0; f < 4; f++) talkOfTwo(ahead, last, f);
             }
         }
+    }
+
+    private static void talkOfTwo(int ahead, int last, int f) {
+        S.by("or, if it was QUIET: SAY of a FACT, ASK of a FACT (which can be, as above), or nothing");
+        boolean mute = last == 4, told = !mute && last != 2 && ahead != 3, nods = !mute && ahead != 2;
+        String call = House.KINDS[last] + " behind " + House.KINDS[ahead] + ", fact " + f + ": he";
+        TailSpeaks x = quietTwo(ahead, last, "", " " + f);
+        talksAre(call + " says nothing new", x, mute ? 1 : told ? 5 : 6, mute ? NOTHING : told ? ASK : f);
+        x.teach(0, f, true);
+        S.is(call + " said it", x.talks(0, 0), told ? 1 : 0);
+        S.is(call + " said it", x.talks(0, 10), told ? f : NONE);
+        x = quietTwo(ahead, last, " " + f, "");
+        talksAre(call + " asks nothing new", x, mute ? 1 : nods ? 4 : 5, mute ? NOTHING : nods && f == 0 ? ASK + 1 : ASK);
+        x.teach(1, f, true);
+        S.is(call + " asked it", x.talks(0, 0), nods ? 1 : 0);
+        S.is(call + " asked it", x.talks(0, 10), nods ? ASK + f : NONE);
     }
 
     private static void nobodyKnowsAnything() {
@@ -176,6 +180,11 @@ public final class TalkEdgeTest {
         x = kept(WISE + "row 1 0 1 2;");
         saw(x, NONE, NONE);
         talksAre("nobody is in row 0", x, 1, NOTHING, NOTHING);
+        for (int f = 0; f < 4; f++) {
+            x = kept("person plain 1 " + f + ";row 0 0;");
+            x.saw(NONE);
+            talksAre("alone with fact " + f, x, 1, NOTHING);
+        }
     }
 
     private static void theSixth() {
